@@ -6,6 +6,7 @@ public final class CoinsTest {
     public static void main(String[] args) {
         reserves();
         claims();
+        claimsOfAnotherKind();
         claimsByTheStayAhead();
         halves();
         heldHalves();
@@ -82,6 +83,25 @@ public final class CoinsTest {
         Check.contract(x, "m 1;", 0, 0, 0);
         x.giveBack(0);
         c.due("31 of a returned plane", x.claim(1, 60), 10);
+    }
+
+    private static void claimsOfAnotherKind() {
+        PlanesBack x = new PlanesBack();
+        x.kind(0, 0, 0, 10);
+        x.kind(0, 0, 0, 20);
+        x.plane(0);
+        x.plane(0);
+        x.need(1, 0, 1);
+        x.need(1, 1, 1);
+        x.part(0, 1, 0, 0, 0);
+        x.part(1, 1, 0, 0, 0);
+        x.move(0, 1);
+        x.move(1, 1);
+        x.fly(1, 3, 0);
+        x.move(1, 10);
+        c.due("31 of its kind", x.claim(1, 50), 50);
+        c.due("31 its kind's rest", x.reserve(1, 1), 10);
+        c.due("31 another kind's stays", x.reserve(1, 0), 30);
     }
 
     private static void claimsByTheStayAhead() {

@@ -196,12 +196,17 @@ public final class PartsTest {
         PlanesBack x = new PlanesBack();
         x.kind(1000, 99, 0, 0);
         x.kind(0, 0, 0, 0);
+        x.kind(7, 7, 7, 0);
+        x.kind(7, 7, 7, 0);
         c.due("14 no part", x.left(0, 0, 0), VOID);
         c.due("15 no part", x.least(0, 0), BAD);
         x.part(0, 1, 400, 100, 5);
         x.part(1, 1, 400, 100, 5);
         c.due("14 measure below", x.left(0, -1, 0), VOID);
         c.due("14 measure above", x.left(0, 3, 0), VOID);
+        x.part(2, 1, 0, 0, 0);
+        c.due("14 measure above, though another kind follows", x.left(2, 3, 0), VOID);
+        c.due("14 measure below, though another kind precedes", x.left(2, -1, 0), VOID);
         c.due("14 day below", x.left(0, 0, -1), VOID);
         c.due("14 day above", x.left(0, 0, 10000), VOID);
         c.due("14 hours", x.left(0, 0, 0), 600);
@@ -234,6 +239,15 @@ public final class PartsTest {
         c.due("15 toward 0", x.least(1, 1), 0);
         x.days(1);
         c.due("15 -10 times 10000 divided is -1", x.least(1, 1), 2);
+        x.kind(99999, 1000, 0, 0);
+        x.part(2, 1, 0, 0, 0);
+        Check.law(x, "100", 0);
+        for (int i = 0; i < 4; i++) {
+            Check.past(x, 2, 11, -1, 0, Check.used(0, 0, 0, 0));
+        }
+        // -299997 times 10000 is more than an int holds; both measures come to -30000.
+        c.due("14 four zero lives", x.left(2, 0, 9999), -299997);
+        c.due("15 far below 0", x.least(2, 9999), 0);
     }
 
     private static void stays() {
