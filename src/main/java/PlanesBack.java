@@ -256,14 +256,15 @@ public final class PlanesBack {
         }
         int first = days / 20000, last = days % 20000;
         int more = ends / 100000 - 500, hoursAtEnd = ends % 100000;
-        if (last > LAST_DAY || first > last || more > 499) {
+        int landingsAtEnd = landings + more;
+        if (last > LAST_DAY || first > last || more > 499 || !isTold(landingsAtEnd)) {
             return BAD;
         }
         if (!stays.hasRoom(1)) {
             return FULL;
         }
         int stay = stays.add(part, where, first - LAST_DAY, hours, landings);
-        stays.end(stay, last - LAST_DAY, hoursAtEnd, landings + more);
+        stays.end(stay, last - LAST_DAY, hoursAtEnd, landingsAtEnd);
         return stays.countOf(part);
     }
 
@@ -426,8 +427,8 @@ public final class PlanesBack {
         if (judge.groundOf(plane, today, today) != 0) {
             return 0;
         }
-        long worth = (long) planes.worth[plane] + lives.halfOf(plane, today);
-        return (int) ((Math.max(0L, worth) + 999) / 1000);
+        int insured = planes.worth[plane] + Math.max(0, lives.halfOf(plane, today));
+        return (insured + 999) / 1000;
     }
 
     public int link(int plane, int lessor, int rent) {

@@ -11,6 +11,7 @@ public final class CoinsTest {
         halves();
         heldHalves();
         insurances();
+        insuranceOfMuch();
         chains();
         counts();
         c.end();
@@ -194,20 +195,41 @@ public final class CoinsTest {
         c.due("33 with half life", x.insure(2), 2);
         x.swap(0, 1);
         c.due("32 less than half", x.half(2, 0), -500);
-        c.due("33 less by that", x.insure(2), 1);
+        c.due("33 by worth alone then", x.insure(2), 1);
         x.fly(2, 1, 0);
         c.due("33 grounded by it", x.insure(2), 0);
         x.need(0, 0, 1);
         x.part(0, 3, 1000, 0, 0);
         x.move(2, 0);
-        c.due("33 0 at least", x.insure(0), 0);
+        c.due("33 no worth, less than half", x.insure(0), 0);
         x.need(3, 0, 1);
         x.part(0, 4, 999, 0, 0);
         x.move(3, 3);
-        c.due("33 1001 less 499", x.insure(3), 1);
+        c.due("32 499 below half", x.half(3, 0), -499);
+        c.due("33 1001, not less 499", x.insure(3), 2);
         x.part(0, 5, 0, 0, 0);
         x.swap(3, 4);
         c.due("33 1001 and 500", x.insure(3), 2);
+        x.need(1, 0, 1);
+        x.part(0, 6, 501, 0, 0);
+        x.move(5, 1);
+        c.due("32 1 below half", x.half(1, 0), -1);
+        c.due("33 1, not less 1", x.insure(1), 1);
+    }
+
+    private static void insuranceOfMuch() {
+        PlanesBack x = new PlanesBack();
+        x.plane(999999);
+        for (int kind = 0; kind < 10; kind++) {
+            x.kind(99999, 99999, 99999, 999000);
+            x.need(0, kind, 3);
+            for (int n = 0; n < 3; n++) {
+                x.move(x.part(kind, 1 + n, 0, 0, 0), 0);
+            }
+        }
+        long each = 50000L * 999 / 100;
+        c.due("32 90 measures", x.half(0, 0), 90 * each);
+        c.due("33 of them", x.insure(0), (999999 + 90 * each + 999) / 1000);
     }
 
     private static void chains() {

@@ -16,6 +16,7 @@ public final class PartsTest {
         stays();
         papers();
         pasts();
+        pastLandingsAtTheEnd();
         pastsOnTheFirstDay();
         overlaps();
         lessThanBefore();
@@ -96,6 +97,7 @@ public final class PartsTest {
         c.due("9 full of stays", x.part(0, 1, 0, 0, 0), FULL);
         c.due("18 full of stays", x.past(0, 11, 0, 0, 0, 50000000), FULL);
         c.due("18 bad ahead of full", x.past(0, 12, 0, 0, 0, 50000000), BAD);
+        c.due("18 landings at the end bad ahead of full", x.past(0, 11, 0, 0, 0, 49900000), BAD);
     }
 
     private static void fullForSwaps() {
@@ -317,6 +319,7 @@ public final class PartsTest {
         c.due("18 landings above", x.past(0, 11, 0, 0, 100000, 50000000), BAD);
         c.due("18 ends below", x.past(0, 11, 0, 0, 0, -1), BAD);
         c.due("18 ends above", x.past(0, 11, 0, 0, 0, 100000000), BAD);
+        c.due("18 ends far above", x.past(0, 11, 0, 0, 0, Integer.MAX_VALUE), BAD);
         c.due("18 nothing changed", x.count(6), 1);
         c.due("18 the earliest day, least ends", x.past(0, 1, 0, 99999, 600, 0), 2);
         c.due("18 the latest day, most ends", x.past(0, 10, 199989999, 7, 8, 99999999), 3);
@@ -332,6 +335,25 @@ public final class PartsTest {
         c.due("18 papers come for them", x.paper(0, 1, 1), 0);
         c.due("18 gaps then", x.ofPart(0, 7), 2);
         c.due("18 in all", x.count(6), 4);
+    }
+
+    private static void pastLandingsAtTheEnd() {
+        PlanesBack x = fleet();
+        x.part(0, 1, 0, 0, 0);
+        c.due("18 500 fewer than 0", x.past(0, 0, 0, 0, 0, 0), BAD);
+        c.due("18 one fewer than 0", x.past(0, 11, 0, 0, 0, 49900000), BAD);
+        c.due("18 one fewer than 0 in a shop", x.past(0, 10, 0, 0, 499, 0), BAD);
+        c.due("18 one above the most", x.past(0, 11, 0, 0, 99999, 50100000), BAD);
+        c.due("18 one above the most by 499", x.past(0, 11, 0, 0, 99501, 99900000), BAD);
+        c.due("18 nothing changed by landings at the end", x.count(6), 1);
+        c.due("18 down to 0", x.past(0, 11, 0, 0, 500, 0), 2);
+        c.due("18 at 0", x.past(0, 11, 1, 0, 0, 50000000), 3);
+        c.due("18 at the most", x.past(0, 11, 2, 0, 99999, 50000000), 4);
+        c.due("18 up to the most", x.past(0, 11, 3, 0, 99500, 99900000), 5);
+        int[] want = {0, 0, 99999, 99999};
+        for (int i = 0; i < 4; i++) {
+            c.due("18 landings at the end of " + i, x.stay(0, i, 6), want[i]);
+        }
     }
 
     private static void pastsOnTheFirstDay() {

@@ -408,7 +408,8 @@ final class PlainModel {
             return BAD;
         }
         int a = days / 20000, b = days % 20000;
-        if (!isDay(a) || !isDay(b) || a > b || ends / 100000 > 999) {
+        int landingsAtEnd = landings + ends / 100000 - 500;
+        if (!isDay(a) || !isDay(b) || a > b || ends / 100000 > 999 || !to99999(landingsAtEnd)) {
             return BAD;
         }
         if (allStays() == 500) {
@@ -419,7 +420,7 @@ final class PlainModel {
         s.from = a - 9999;
         s.to = b - 9999;
         s.start = new int[] {hours, landings};
-        s.end = new int[] {ends % 100000, landings + ends / 100000 - 500};
+        s.end = new int[] {ends % 100000, landingsAtEnd};
         parts.get(part).told.add(s);
         return parts.get(part).told.size();
     }
@@ -874,7 +875,7 @@ final class PlainModel {
         if (!in(planes, plane)) {
             return BAD;
         }
-        long sum = Math.max(0, (long) planes.get(plane).worth + half(plane, day));
+        long half = half(plane, day), sum = planes.get(plane).worth + (half < 0 ? 0 : half);
         return grounded(plane, day) != 0 ? 0 : (int) (sum / 1000 + (sum % 1000 > 0 ? 1 : 0));
     }
 
