@@ -127,6 +127,12 @@ public final class EdgesCoinsTest extends Edges {
         due("of the plane ahead", s, x -> x.claim(0, 999), 20);
         due("what the other keeps", s.then(x -> x.claim(0, 999)), x -> x.reserve(0, 0), 30);
         due("what that one keeps", s.then(x -> x.claim(0, 999)), x -> x.reserve(1, 0), 0);
+        Scene second = start().then(x -> x.kind(0, 0, 0, 10), x -> x.kind(0, 0, 0, 3), x -> x.plane(0), x -> x.plane(0))
+            .then(x -> x.need(1, 0, 1), x -> x.need(1, 1, 1), x -> x.part(0, 1, 0, 0, 0), x -> x.part(1, 1, 0, 0, 0))
+            .then(x -> x.move(0, 1), x -> x.move(1, 1), x -> x.fly(1, 2, 0), x -> x.move(1, 10), x -> x.claim(1, 4));
+        due("of its kind", second, x -> x.reserve(1, 1), 2);
+        due("not of another kind", second, x -> x.reserve(1, 0), 20);
+        due("not of another plane", second, x -> x.reserve(0, 1), 0);
         due("a past one told since, earlier", s.past(0, 11, -5, -4, 0, 0, 0, 0), x -> x.claim(0, 999), 20);
         due("a past one told since, of that day", s.past(0, 11, 0, 0, 0, 0, 0, 0), x -> x.claim(0, 999), 20);
     }

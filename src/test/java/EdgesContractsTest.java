@@ -89,6 +89,10 @@ public final class EdgesContractsTest extends Edges {
         due("in its place: rent", other, x -> x.ofPlane(0, 8), 4);
         due("in its place: its line", other, x -> x.costs(0, 0, 0, 0), 0);
         due("in its place: no second line", other, x -> x.costs(0, 1, 0, 0), VOID);
+        Scene longer = gapOn().contract("g 5;".repeat(30), 0, 0, 0);
+        due("30 lines together", longer, x -> x.costs(0, -1, 0, 0), 150);
+        due("fewer lines in their place", longer.contract("g 1;".repeat(29), 0, 0, 0), x -> x.costs(0, -1, 0, 0), 29);
+        due("one line in their place", longer.contract("g 1;", 0, 0, 0), x -> x.costs(0, -1, 0, 0), 1);
         due("a fault without an earlier one", gapOn().contract("x", 0, 3, 4), x -> x.ofPlane(0, 7), -1);
         due("an empty tape", s, x -> x.contract(0, 3, 4), -100);
         due("an empty tape leaves it", s.then(x -> x.contract(0, 3, 4)), x -> x.ofPlane(0, 7), 7);

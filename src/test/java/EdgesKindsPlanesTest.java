@@ -490,6 +490,12 @@ public final class EdgesKindsPlanesTest extends Edges {
                 due("left " + -over + " of measure " + measure, s, x -> x.grounded(0, 0), over > 0 ? 2 : 0);
             }
         }
+        for (int used = 0; used <= 2; used++) {
+            int n = used;
+            Scene least = start().then(x -> x.kind(1, 0, 0, 0), x -> x.plane(0), x -> x.need(0, 0, 1))
+                .then(x -> x.part(0, 1, n, 0, 0), x -> x.move(0, 0));
+            due("used " + n + " of the least limit", least, x -> x.grounded(0, 0), n > 1 ? 2 : 0);
+        }
         Scene none = start().then(x -> x.kind(0, 0, 0, 0), x -> x.plane(0), x -> x.need(0, 0, 1))
             .then(x -> x.part(0, 1, 99999, 99999, 99999), x -> x.move(0, 0));
         due("no limit", none, x -> x.grounded(0, 0), 0);

@@ -223,6 +223,11 @@ public final class EdgesLawsTest extends Edges {
         good("d", 3);
         good("w", 11);
         good("h", 0);
+        for (int kind : new int[] {0, 1, 9}) {
+            Scene of = start().times(10, i -> x -> x.kind(0, 0, 0, 0))
+                .then(x -> x.part(kind, 1, 0, 0, 0), x -> x.move(0, 10)).law("k", 0);
+            due("kind " + kind, of, x -> x.lost(0, 0, 0), kind);
+        }
         String names = "dhlwkn";
         for (char sign = 33; sign < 127; sign++) {
             String text = "" + sign;

@@ -319,8 +319,12 @@ public final class EdgesPartsTest extends Edges {
         due("the same days", s.past(0, 1, -20, -10, 0, 0, 0, 0), x -> x.ofPart(0, 8), 1);
         due("within it", s.past(0, 1, -16, -15, 0, 0, 0, 0), x -> x.ofPart(0, 8), 1);
         due("around it", s.past(0, 1, -30, -5, 0, 0, 0, 0), x -> x.ofPart(0, 8), 1);
-        Scene far = s.past(0, 0, -10, -9, 0, 0, 0, 0).past(0, 0, -9, -8, 0, 0, 0, 0);
-        due("not of neighbours", far.past(0, 1, -21, -8, 0, 0, 0, 0), x -> x.ofPart(0, 8), 1);
+        Scene far = s.past(0, 0, -15, -14, 0, 0, 0, 0);
+        due("not of neighbours in order", far.past(0, 1, -11, -11, 0, 0, 0, 0), x -> x.ofPart(0, 8), 1);
+        due("not of neighbours, behind both", far.past(0, 1, -10, -10, 0, 0, 0, 0), x -> x.ofPart(0, 8), 0);
+        Scene early = s.past(0, 0, -30, -29, 0, 0, 0, 0);
+        due("not with the first", early.past(0, 1, -11, -9, 0, 0, 0, 0), x -> x.ofPart(0, 8), 1);
+        due("not with the first, nor the second", early.past(0, 1, -10, -9, 0, 0, 0, 0), x -> x.ofPart(0, 8), 0);
     }
 
     private void overlapsOfOneDay() {
@@ -578,6 +582,9 @@ public final class EdgesPartsTest extends Edges {
         Scene ended = s.then(x -> x.move(0, 10));
         due("none at its end", ended, x -> x.stay(0, 0, 7), 0);
         due("a gap", ended, x -> x.ofPart(0, 7), 1);
+        due("a paper", ended.then(x -> x.paper(0, 0, 1)), x -> x.stay(0, 0, 7), 1);
+        due("no paper for the next", ended.then(x -> x.paper(0, 0, 1)), x -> x.stay(0, 1, 7), 0);
+        due("the paper is no more", ended.then(x -> x.paper(0, 0, 1), x -> x.paper(0, 0, 0)), x -> x.stay(0, 0, 7), 0);
         due("no gap with a paper", ended.then(x -> x.paper(0, 0, 1)), x -> x.ofPart(0, 7), 0);
         due("a gap again", ended.then(x -> x.paper(0, 0, 1), x -> x.paper(0, 0, 0)), x -> x.ofPart(0, 7), 1);
         due("a past one", s.past(0, 11, 0, 0, 0, 0, 0, 0), x -> x.ofPart(0, 7), 1);
