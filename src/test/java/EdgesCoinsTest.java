@@ -18,6 +18,7 @@ public final class EdgesCoinsTest extends Edges {
         t.claimsByTheStayAhead();
         t.claimsAsFarAsThatGoes();
         t.halves();
+        t.halvesOfPartsOnIt();
         t.halvesTowardZero();
         t.halvesHeld();
         t.insurances();
@@ -25,11 +26,13 @@ public final class EdgesCoinsTest extends Edges {
         t.insurancesZeroAtLeast();
         t.insurancesIfGrounded();
         t.links();
+        t.linksComeBehind();
         t.linksFull();
         t.nets();
         t.netsOfTheNext();
         t.counts();
         t.countsOfPlaces();
+        t.countsPaid();
         t.end(30, 36);
     }
 
@@ -167,6 +170,20 @@ public final class EdgesCoinsTest extends Edges {
         due("a returned one", s, x -> x.half(2, 4), 0);
     }
 
+    private void halvesOfPartsOnIt() {
+        terms("HALF LIFE of a PLANE: the sum over parts on it and measures with a LIMIT of");
+        for (int bits = 0; bits < 8; bits++) {
+            int h = bits & 1, l = bits >> 1 & 1, d = bits >> 2;
+            Scene s = start().then(x -> x.kind(200 * h, 200 * l, 200 * d, 100000), x -> x.plane(0), x -> x.plane(0))
+                .then(x -> x.need(0, 0, 2), x -> x.need(1, 0, 1))
+                .times(4, i -> x -> x.part(0, 1 + i, 0, 0, 0)).then(x -> x.move(2, 1));
+            for (int on = 0; on <= 2; on++) {
+                int want = 100 * on * Integer.bitCount(bits);
+                due(on + " parts, measures " + bits, s.times(on, i -> x -> x.move(i, 0)), x -> x.half(0, 0), want);
+            }
+        }
+    }
+
     private void halvesTowardZero() {
         terms("(LEFT less LIMIT / 2) times RATE divided by 100 (toward 0; each)");
         int[] limits = {100, 101, 1, 2, 3};
@@ -280,6 +297,20 @@ public final class EdgesCoinsTest extends Edges {
         }
     }
 
+    private void linksComeBehind() {
+        promise(34, "A LESSOR comes behind those of a PLANE's CHAIN: how many.");
+        Scene s = start().then(x -> x.plane(0), x -> x.plane(0));
+        for (int n = 1; n <= 4; n++) {
+            int had = n - 1, rent = 10 * n;
+            due("link " + n, s, x -> x.link(0, 0, rent), n);
+            refused("none of its number yet", s, x -> x.net(0, had, 1), VOID);
+            s = s.then(x -> x.link(0, 0, rent));
+            due("the last of " + n, s, x -> x.net(0, had, 1), rent);
+            due("the first of " + n, s, x -> x.net(0, 0, 1), n == 1 ? 10 : -10);
+        }
+        due("of the other plane", s, x -> x.link(1, 0, 1), 1);
+    }
+
     private void linksFull() {
         terms("CHAIN of a PLANE: LESSORS (0 .. 9), at most 4, each with a RENT a DAY, link 0 the nearest");
         Scene three = rich().then(x -> x.link(0, 3, 300));
@@ -333,6 +364,23 @@ public final class EdgesCoinsTest extends Edges {
         }
         due("coins paid", s.then(x -> x.claim(1, 7), x -> x.claim(1, 8)), x -> x.count(12), 15);
         due("no coins paid by one that is not", s.then(x -> x.claim(0, 7)), x -> x.count(12), 0);
+    }
+
+    private void countsPaid() {
+        promise(36, "12 coins PAID for WORKS.");
+        Scene s = rich();
+        due("none", s, x -> x.count(12), 0);
+        due("one", s.then(x -> x.claim(1, 1)), x -> x.count(12), 1);
+        due("all", s.then(x -> x.claim(1, 1000)), x -> x.count(12), 1000);
+        due("no more than all", s.then(x -> x.claim(1, 1001)), x -> x.count(12), 1000);
+        due("nothing more", s.then(x -> x.claim(1, 1000), x -> x.claim(1, 1)), x -> x.count(12), 1000);
+        due("of both kinds", s.then(x -> x.claim(1, 1000), x -> x.move(2, 10), x -> x.claim(2, 60)),
+            x -> x.count(12), 1060);
+        promise(36, "7 bytes on THE TAPE");
+        for (int bytes : new int[] {0, 1, 119, 120}) {
+            due(bytes + " bytes", start().feed("1".repeat(bytes)), x -> x.count(7), bytes);
+        }
+        due("121 bytes do not come", start().feed("1".repeat(121)), x -> x.count(7), 120);
     }
 
     private void countsOfPlaces() {

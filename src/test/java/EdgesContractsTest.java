@@ -23,6 +23,8 @@ public final class EdgesContractsTest extends Edges {
         t.costs();
         t.hoursLandingsDays();
         t.noSuchKindOrLimit();
+        t.noLimitLacksNothing();
+        t.coinsOfEach();
         t.partsTogether();
         t.gaps();
         t.orders();
@@ -300,6 +302,38 @@ public final class EdgesContractsTest extends Edges {
             Scene later = by.then(x -> x.kind(1, 1, 1, 0), x -> x.need(0, 3, 1), x -> x.part(3, 1, 0, 0, 0));
             due(letter + " of a kind that came later, no part on it", later, x -> x.lacks(0, 3, 0, 0), 0);
             due(letter + " of a kind that came later", later.then(x -> x.move(3, 0)), x -> x.lacks(0, 3, 0, 0), 8);
+        }
+    }
+
+    private void noLimitLacksNothing() {
+        terms("(A KIND without that LIMIT lacks nothing by its LINE.)");
+        for (int limit : new int[] {0, 1}) {
+            Scene s = start().then(x -> x.kind(limit, limit, limit, 0), x -> x.plane(0), x -> x.need(0, 0, 1))
+                .then(x -> x.part(0, 1, 99999, 99999, 99999), x -> x.move(0, 0))
+                .contract("h 0 99999 1;l 0 99999 1;d 0 99999 1;", 0, 0, 0);
+            for (int line = 0; line < 3; line++) {
+                int i = line, lack = limit == 0 ? 0 : 99999 + 99998;
+                due("units of line " + i + " by a limit of " + limit, s, x -> x.lacks(0, i, 0, 0), lack);
+                due("cost of line " + i + " by a limit of " + limit, s, x -> x.costs(0, i, 0, 0), lack);
+            }
+        }
+    }
+
+    private void coinsOfEach() {
+        terms("g c: each GAP of parts on it costs c; o c: each ORDER of it that is not done costs c;"
+            + " m c: each part that it needs and is missing costs c");
+        Scene s = start().then(x -> x.kind(0, 0, 0, 0), x -> x.plane(0), x -> x.need(0, 0, 3))
+            .times(3, i -> x -> x.part(0, 1 + i, 0, 0, 0));
+        for (int coins : new int[] {0, 1, 99998, 99999}) {
+            Scene by = s.contract("g " + coins + ";o " + coins + ";m " + coins + ";", 0, 0, 0);
+            for (int n = 0; n <= 3; n++) {
+                int some = n;
+                Scene then = by.times(some, i -> x -> x.move(i, 0)).times(some, i -> x -> x.order(0, 0));
+                due(n + " gaps at " + coins, then, x -> x.costs(0, 0, 0, 0), some * coins);
+                due(n + " orders at " + coins, then, x -> x.costs(0, 1, 0, 0), some * coins);
+                due((3 - n) + " missing at " + coins, then, x -> x.costs(0, 2, 0, 0), (3 - some) * coins);
+                due(n + " together at " + coins, then, x -> x.costs(0, -1, 0, 0), (3 + some) * coins);
+            }
         }
     }
 

@@ -35,11 +35,13 @@ public final class EdgesKindsPlanesTest extends Edges {
         t.flightsTooFar();
         t.flightsAnswers();
         t.ofPlanes();
+        t.ofEachPlane();
         t.ofReturned();
         t.groundedDays();
         t.groundedByMissing();
         t.groundedByLeft();
         t.groundedByOrder();
+        t.ordersOfEachPlane();
         t.groundedFirst();
         t.groundedReturned();
         t.groundedAsKnown();
@@ -439,6 +441,24 @@ public final class EdgesKindsPlanesTest extends Edges {
         within("plane", s, v -> x -> x.ofPlane(v, 4), 0, 2, v -> v == 0 ? 90000 : v == 1 ? 500 : 7, VOID);
     }
 
+    private void ofEachPlane() {
+        promise(7, "Of a PLANE: 0 HOURS, 1 LANDINGS, 2 state, 3 parts on it, 4 WORTH,");
+        for (int on = 0; on <= 3; on++) {
+            int n = on;
+            Scene s = start().then(x -> x.kind(0, 0, 0, 0), x -> x.plane(7), x -> x.plane(8), x -> x.need(1, 0, 3))
+                .times(4, i -> x -> x.part(0, 1 + i, 0, 0, 0)).times(n, i -> x -> x.move(i, 1));
+            due(n + " parts on it", s, x -> x.ofPlane(1, 3), n);
+            due(n + " parts on the other", s, x -> x.ofPlane(0, 3), 0);
+        }
+        Scene two = start().then(x -> x.plane(7), x -> x.plane(8), x -> x.fly(1, 1, 0), x -> x.fly(0, 999, 998));
+        int[][] of = {{999, 998, 0, 0, 7}, {1, 0, 0, 0, 8}};
+        for (int what = 0; what <= 4; what++) {
+            int asked = what;
+            due("what " + what + " of the first", two, x -> x.ofPlane(0, asked), of[0][what]);
+            due("what " + what + " of the second", two, x -> x.ofPlane(1, asked), of[1][what]);
+        }
+    }
+
     private void ofReturned() {
         promise(7, "5 what it cost when it was RETURNED (-1), 6 the DAY of that (-1), 7 RETURN DAY (-1: no CONTRACT)");
         Scene s = rich();
@@ -512,6 +532,22 @@ public final class EdgesKindsPlanesTest extends Edges {
             due("day " + day + " done", ordered.then(x -> x.done(0, 0)), x -> x.grounded(0, 5), 0);
             due("day " + day + " of one that needs none", ordered, x -> x.grounded(1, 5), 0);
             due("day " + day + " of another kind", s.then(x -> x.order(1, day)), x -> x.grounded(0, 5), 0);
+        }
+    }
+
+    private void ordersOfEachPlane() {
+        terms("each PLANE that needs that KIND has to have it DONE (told).");
+        Scene s = start().then(x -> x.kind(0, 0, 0, 0)).times(3, i -> x -> x.plane(0))
+            .times(2, i -> x -> x.need(i, 0, 1)).times(2, i -> x -> x.part(0, 1 + i, 0, 0, 0)).times(2, i -> x -> x.move(i, i))
+            .then(x -> x.order(0, 0), x -> x.order(0, 0), x -> x.days(1));
+        int[] why = {3, 3, 0};
+        for (int plane = 0; plane < 3; plane++) {
+            int p = plane;
+            due("plane " + p, s, x -> x.grounded(p, 1), why[p]);
+            due("one of two is done", s.then(x -> x.done(0, p)), x -> x.grounded(p, 1), why[p]);
+            due("both are done", s.then(x -> x.done(0, p), x -> x.done(1, p)), x -> x.grounded(p, 1), 0);
+            due("both are done for another", s.then(x -> x.done(0, p), x -> x.done(1, p)),
+                x -> x.grounded(p == 0 ? 1 : 0, 1), 3);
         }
     }
 

@@ -42,6 +42,7 @@ public final class EdgesLawsTest extends Edges {
         t.gapsAhead();
         t.orders();
         t.ordersFull();
+        t.donesToday();
         t.dones();
         t.end(19, 23);
     }
@@ -601,6 +602,20 @@ public final class EdgesLawsTest extends Edges {
         refused("bad day ahead of full", full, x -> x.order(0, -1), BAD);
         refused("bad kind ahead of full", full, x -> x.order(3, 0), BAD);
         within("order", full, v -> x -> x.done(v, 0), 0, 19, v -> v == 1 ? NOT : 1, BAD);
+    }
+
+    private void donesToday() {
+        promise(23, "An ORDER is DONE for a PLANE TODAY: 1.");
+        Scene s = start().then(x -> x.kind(0, 0, 0, 0), x -> x.plane(0), x -> x.need(0, 0, 1))
+            .then(x -> x.part(0, 1, 0, 0, 0), x -> x.move(0, 0), x -> x.order(0, 2));
+        for (int day = 1; day <= 3; day++) {
+            int n = day;
+            Scene on = s.then(x -> x.days(n));
+            due("on day " + n, on, x -> x.done(0, 0), 1);
+            due("not done on day " + n, on, x -> x.grounded(0, n), n > 2 ? 3 : 0);
+            due("done on day " + n, on.then(x -> x.done(0, 0)), x -> x.grounded(0, n), 0);
+            due("done on day " + n + ", later", on.then(x -> x.done(0, 0), x -> x.days(9)), x -> x.grounded(0, n), 0);
+        }
     }
 
     private void dones() {

@@ -33,17 +33,21 @@ public final class EdgesPartsTest extends Edges {
         t.lessByAShop();
         t.lessInOrder();
         t.twins();
+        t.mayBe();
         t.cantBeFirst();
         t.leftOfMeasures();
         t.leftBelow();
         t.leastNot();
         t.leastOfSeveral();
         t.stays();
+        t.staysInOrder();
+        t.staysOneBehindTheOther();
         t.staysThatGoOn();
         t.papers();
         t.papersAtFirst();
         t.pastPlaces();
         t.pastAtBothEnds();
+        t.pastCounts();
         t.pastDays();
         t.pastUsed();
         t.pastEnds();
@@ -428,6 +432,18 @@ public final class EdgesPartsTest extends Edges {
         due("of the gone one", on.then(x -> x.giveBack(0)), x -> x.ofPart(1, 8), 3);
     }
 
+    private void mayBe() {
+        terms("0: it may be.");
+        Scene s = one();
+        due("as it came", s, x -> x.ofPart(0, 8), 0);
+        due("moved", s.then(x -> x.move(0, 10), x -> x.move(0, 11)), x -> x.ofPart(0, 8), 0);
+        due("a day in each place", s.then(x -> x.days(1), x -> x.move(0, 10), x -> x.days(1), x -> x.move(0, 11)),
+            x -> x.ofPart(0, 8), 0);
+        due("on a plane", ready().then(x -> x.fly(0, 9, 9), x -> x.days(1)), x -> x.ofPart(0, 8), 0);
+        due("with an open gap ahead", s.past(0, 0, -9, -5, 0, 50, 0, 50), x -> x.ofPart(0, 8), 0);
+        due("gone", ready().contract("g 0;", 0, 0, 0).then(x -> x.giveBack(0)), x -> x.ofPart(0, 8), 0);
+    }
+
     private void cantBeFirst() {
         terms("CAN'T BE: of a PART's STAYS (PAST ones too): the first of:");
         Scene twin = one().then(x -> x.part(0, 1, 0, 0, 0));
@@ -530,6 +546,41 @@ public final class EdgesPartsTest extends Edges {
         within("of 500", full, v -> x -> x.stay(1, v, 0), 0, 249, v -> v % 2 == 0 ? 11 : v == 249 ? 10 : 0, VOID);
     }
 
+    private void staysInOrder() {
+        promise(16, "STAY i of a PART (in order of their beginnings; of one DAY as told; PAST ones too)");
+        Scene s = one().then(x -> x.move(0, 10)).past(0, 0, -2, -1, 7, 7, 0, 0).past(0, 1, -3, 0, 6, 6, 0, 0)
+            .past(0, 1, -2, 0, 8, 8, 0, 0).past(0, 0, 0, 0, 9, 9, 0, 0).then(x -> x.days(1), x -> x.move(0, 11));
+        int[] where = {1, 0, 1, 11, 10, 0, 11}, from = {-3, -2, -2, 0, 0, 0, 1}, to = {0, -1, 0, 0, 1, 0, VOID};
+        for (int i = 0; i < where.length; i++) {
+            int at = i;
+            due("where " + i, s, x -> x.stay(0, at, 0), where[i]);
+            due("from " + i, s, x -> x.stay(0, at, 1), from[i]);
+            due("to " + i, s, x -> x.stay(0, at, 2), to[i]);
+        }
+        refused("one behind the last", s, x -> x.stay(0, where.length, 0), VOID);
+        promise(16, "7 PAPER (1, 0).");
+        for (int i = 0; i < 6; i++) {
+            int at = i;
+            due("no paper " + i, s, x -> x.stay(0, at, 7), 0);
+            due("a paper " + i, s.then(x -> x.paper(0, at, 1)), x -> x.stay(0, at, 7), 1);
+            due("no paper for the next of " + i, s.then(x -> x.paper(0, at, 1)), x -> x.stay(0, at + 1, 7), 0);
+        }
+    }
+
+    private void staysOneBehindTheOther() {
+        terms("from a DAY to a DAY (the last one goes on), USED HOURS and LANDINGS at its beginning and at its end");
+        Scene s = ready().then(x -> x.fly(0, 4, 3), x -> x.days(3), x -> x.move(0, 10), x -> x.repair(0, 1))
+            .then(x -> x.move(0, 11), x -> x.days(1));
+        int[][] want = {{11, 0, 2, 10, 10, 20, 20}, {0, 2, 5, 10, 14, 20, 23}, {10, 5, 5, 14, 0, 23, 23},
+            {11, 5, VOID, 0, 0, 23, 23}};
+        for (int i = 0; i < 4; i++) {
+            for (int what = 0; what < 7; what++) {
+                int at = i, asked = what;
+                due("stay " + i + " what " + what, s, x -> x.stay(0, at, asked), want[i][what]);
+            }
+        }
+    }
+
     private void staysThatGoOn() {
         promise(16, "2 its last DAY (VOID: it goes on), 3 HOURS at its beginning, 4 at its end (now, if it goes on)");
         Scene s = ready();
@@ -618,6 +669,18 @@ public final class EdgesPartsTest extends Edges {
         due("gaps", s, x -> x.ofPart(0, 7), 2);
         due("its place stays", s, x -> x.ofPart(0, 2), 11);
         due("its used stay", s, x -> x.ofPart(0, 3), 100);
+    }
+
+    private void pastCounts() {
+        promise(18, "A PAST STAY of a PART: how many STAYS it has. where: 0 .. 11;");
+        due("the first", one(), x -> x.past(0, 0, 0, 0, 0, SAME), 2);
+        due("the second", one().past(0, 0, 0, 0, 0, 0, 0, 0), x -> x.past(0, 0, 0, 0, 0, SAME), 3);
+        due("behind a move", one().then(x -> x.move(0, 10)), x -> x.past(0, 0, 0, 0, 0, SAME), 3);
+        Scene two = one().then(x -> x.part(0, 2, 0, 0, 0)).past(0, 0, 0, 0, 0, 0, 0, 0);
+        due("of another part", two, x -> x.past(1, 0, 0, 0, 0, SAME), 2);
+        due("in all", two, x -> x.count(6), 3);
+        due("as many as there may be", one().times(498, i -> x -> x.past(0, 11, 0, 0, 0, SAME)),
+            x -> x.past(0, 11, 0, 0, 0, SAME), 500);
     }
 
     private void pastDays() {
