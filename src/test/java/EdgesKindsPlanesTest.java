@@ -538,7 +538,8 @@ public final class EdgesKindsPlanesTest extends Edges {
     private void ordersOfEachPlane() {
         terms("each PLANE that needs that KIND has to have it DONE (told).");
         Scene s = start().then(x -> x.kind(0, 0, 0, 0)).times(3, i -> x -> x.plane(0))
-            .times(2, i -> x -> x.need(i, 0, 1)).times(2, i -> x -> x.part(0, 1 + i, 0, 0, 0)).times(2, i -> x -> x.move(i, i))
+            .times(2, i -> x -> x.need(i, 0, 1)).times(2, i -> x -> x.part(0, 1 + i, 0, 0, 0))
+            .times(2, i -> x -> x.move(i, i))
             .then(x -> x.order(0, 0), x -> x.order(0, 0), x -> x.days(1));
         int[] why = {3, 3, 0};
         for (int plane = 0; plane < 3; plane++) {
