@@ -106,6 +106,16 @@ public final class EdgesLawsTest extends Edges {
         due("119 bytes", gap().feed(longest.substring(0, 119)), x -> x.law(0), 0);
         due("120 bytes that end too early", gap().feed("1+".repeat(60)), x -> x.law(0), -220);
         due("a fault in the last", gap().feed("1+".repeat(59) + "1x"), x -> x.law(0), -219);
+        Scene again = gap().law("1+".repeat(60), 0).law(longest, 0);
+        due("120 bytes behind 120 with a fault", again, x -> x.lost(0, 0, 3), 71);
+        // Each byte of this one is a sign of its own.
+        due("120 signs", gap().law("1+".repeat(59) + "-1", 0), x -> x.lost(0, 0, 3), 58);
+        due("120 signs with a choice", gap().law("0?1:" + "1+".repeat(57) + "-1", 0), x -> x.lost(0, 0, 3), 56);
+        Scene ten = gap();
+        for (int i = 0; i < 10; i++) {
+            ten = ten.law("1+".repeat(59) + (10 + i), 0);
+        }
+        due("120 bytes ten times", ten, x -> x.lost(0, 0, 3), 78);
         due("bytes of 120", gap().feed(longest), x -> x.count(7), 120);
         refused("the 121st does not come", gap().feed(longest), x -> x.feed(1, '0'), FULL);
     }
