@@ -1,7 +1,7 @@
 import java.io.IOException;
 
 /** Boundary cases of promises 30 to 36, and of the terms that they go by. */
-public final class EdgesCoinsTest extends Edges {
+public final class EdgesCoinsTest extends Sentences {
     private static final int HELD = 2000000000;
 
     private EdgesCoinsTest() throws IOException {

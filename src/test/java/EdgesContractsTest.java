@@ -1,7 +1,7 @@
 import java.io.IOException;
 
 /** Boundary cases of promises 24 to 29, and of the terms that they go by. */
-public final class EdgesContractsTest extends Edges {
+public final class EdgesContractsTest extends Sentences {
     private static final int HELD = 2000000000;
 
     private EdgesContractsTest() throws IOException {

@@ -1,7 +1,7 @@
 import java.io.IOException;
 
 /** Every row full: the last kind, plane, part, stay, law, order, link, line and byte are as good as the first. */
-public final class EdgesFullTest extends Edges {
+public final class EdgesFullTest extends Sentences {
     private EdgesFullTest() throws IOException {
         super("EdgesFullTest");
     }

@@ -1,7 +1,7 @@
 import java.io.IOException;
 
 /** Boundary cases of promises 1 to 8, and of the terms that they go by. */
-public final class EdgesKindsPlanesTest extends Edges {
+public final class EdgesKindsPlanesTest extends Sentences {
     private EdgesKindsPlanesTest() throws IOException {
         super("EdgesKindsPlanesTest");
     }

@@ -1,7 +1,7 @@
 import java.io.IOException;
 
 /** Boundary cases of promises 19 to 23, and of the terms that they go by. */
-public final class EdgesLawsTest extends Edges {
+public final class EdgesLawsTest extends Sentences {
     private EdgesLawsTest() throws IOException {
         super("EdgesLawsTest");
     }

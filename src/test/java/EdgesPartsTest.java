@@ -1,7 +1,7 @@
 import java.io.IOException;
 
 /** Boundary cases of promises 9 to 18, and of the terms that they go by. */
-public final class EdgesPartsTest extends Edges {
+public final class EdgesPartsTest extends Sentences {
     private static final int SAME = 50000000;
 
     private EdgesPartsTest() throws IOException {

@@ -43,7 +43,7 @@ final class Look {
     /** No object is asked more than the document lets it be: so many objects are made. */
     private static List<Integer> answersOf(Scene scene, List<Call> calls) {
         List<Integer> all = new ArrayList<>();
-        int room = Math.max(1, Edges.MOST_CALLS - scene.size());
+        int room = Math.max(1, Sentences.MOST_CALLS - scene.size());
         for (int at = 0; at < calls.size(); at += room) {
             PlanesBack x = scene.made();
             for (Call call : calls.subList(at, Math.min(at + room, calls.size()))) {

@@ -1,8 +1,7 @@
 import java.io.IOException;
-import java.nio.charset.StandardCharsets;
-import java.nio.file.Files;
-import java.nio.file.Path;
+import java.util.ArrayList;
 import java.util.IdentityHashMap;
+import java.util.List;
 import java.util.Map;
 import java.util.TreeSet;
 import java.util.function.IntFunction;
@@ -12,36 +11,26 @@ import java.util.function.IntUnaryOperator;
  * Tests of sentences that name a boundary case. Each sentence is quoted from the document, and is tested at the
  * boundary and one beyond it; what is refused must change nothing that can be asked, now or by a further call.
  */
-abstract class Edges {
+abstract class Sentences {
     static final int BAD = Check.BAD, NOT = Check.NOT, FULL = Check.FULL, BIG = Check.BIG, VOID = Check.VOID;
     static final int MIN = Integer.MIN_VALUE, MAX = Integer.MAX_VALUE, MOST_CALLS = 512;
 
     private final Check c;
-    private final String document;
+    private final Document document;
     private final Map<Scene, Look> looks = new IdentityHashMap<>();
     private final TreeSet<Integer> promises = new TreeSet<>();
     private String label = "";
     private int sentences;
 
-    Edges(String test) throws IOException {
+    Sentences(String test) throws IOException {
         c = new Check(test);
-        Path path = Path.of("../shared/DOC.md");
-        document = Files.exists(path) ? plain(Files.readString(path, StandardCharsets.UTF_8)) : "";
-        if (document.isEmpty()) {
-            System.out.println(test + ": " + path + " is not here, so no quote is looked up");
-        }
-    }
-
-    private static String plain(String text) {
-        return text.replaceAll("```(text|java)?", " ").replaceAll("\\s+", " ");
+        document = new Document();
     }
 
     /** What follows tests this sentence of a promise. */
     final void promise(int number, String sentence) {
-        String begin = "## Promise " + number + ":";
-        int at = document.indexOf(begin), end = document.indexOf(" ## ", at + 1);
-        c.is("promise " + number + " says: " + sentence, document.isEmpty() || at >= 0 && end > at
-            && document.substring(at, end).contains(sentence));
+        c.is("promise " + number + " says: " + sentence,
+            !document.isHere() || document.promise(number).contains(sentence));
         promises.add(number);
         label = "promise " + number + ", '" + sentence + "': ";
         sentences++;
@@ -49,8 +38,7 @@ abstract class Edges {
 
     /** What follows tests this sentence of the terms, ahead of the promises. */
     final void terms(String sentence) {
-        int at = document.indexOf(sentence);
-        c.is("the terms say: " + sentence, document.isEmpty() || at >= 0 && at < document.indexOf("## Promise 1:"));
+        c.is("the terms say: " + sentence, !document.isHere() || document.terms().contains(sentence));
         label = "terms, '" + sentence + "': ";
         sentences++;
     }
@@ -87,6 +75,26 @@ abstract class Edges {
 
     final void within(String what, Scene scene, IntFunction<Call> call, int low, int high, int good, int refusal) {
         within(what, scene, call, low, high, value -> good, refusal);
+    }
+
+    /**
+     * What the call answers, and all that it changes: the questions whose answers are others behind it, as
+     * "question before>after", one or more to a text, parted by "; ".
+     */
+    final void changes(String what, Scene scene, Call call, long want, String... changes) {
+        due(what, scene, call, want);
+        Scene after = scene.then(call);
+        List<String> due = new ArrayList<>();
+        for (String some : changes) {
+            due.addAll(List.of(some.split("; ")));
+        }
+        List<String> seen = new View(scene, after).changes(scene, after);
+        for (String change : seen) {
+            c.is(label + what + " does not change " + change, due.contains(change));
+        }
+        for (String change : due) {
+            c.is(label + what + " changes " + change, seen.contains(change));
+        }
     }
 
     static Scene start() {
